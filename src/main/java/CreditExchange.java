@@ -439,7 +439,11 @@ public final class CreditExchange {
             case 3:
                 return copy.tryPlace(command - 1, t, x, y);
             case 4:
-                return t == 0 && x == 0 && tryTicks(y);
+                if (t != 0 || x != 0 || !isWithin(y, 1, MOST_TICKS)) {
+                    return false;
+                }
+                copy.advance(y, trial);
+                return true;
             case 5:
                 return x == 0 && copy.tryQueue(t, y);
             case 6:
@@ -451,14 +455,6 @@ public final class CreditExchange {
             default:
                 return false;
         }
-    }
-
-    private boolean tryTicks(int n) {
-        if (!isWithin(n, 1, MOST_TICKS)) {
-            return false;
-        }
-        copy.advance(n, trial);
-        return true;
     }
 
     private void tryRandomAction(int r) {
@@ -762,9 +758,9 @@ public final class CreditExchange {
         }
 
         private int earliestDueTime(Tenant tenant) {
-            for (int due = time; due <= time + term; due++) {
-                if (tenant.owedAt(due) > 0) {
-                    return due;
+            for (int wait = 0; wait <= term; wait++) {
+                if (tenant.owedAt(time + wait) > 0) {
+                    return time + wait;
                 }
             }
             return NONE;

@@ -12,6 +12,8 @@ public final class ActionsTest {
         collectsFromCredits();
         collectsFromOrders();
         collectsPenalties();
+        collectsTheLastCredit();
+        collectsAfterTheLongestTerm();
         collectsSeveralDebts();
         suspendsAnew();
         collectsWithoutPenalty();
@@ -238,6 +240,48 @@ public final class ActionsTest {
         z.tick(2);
         Check.is("8 are paid for, 2 are not", Check.tenant(z, 0), "20,0,0,0,4,0,0,0,-9,0,0,7");
         Check.is("the house gets 8 * 7", z.about(6), 56);
+    }
+
+    /** One credit makes the difference. */
+    private static void collectsTheLastCredit() {
+        CreditExchange x = soldShort(61, 29);
+        x.tick(2);
+        Check.is("one credit is missing and not paid for", Check.tenant(x, 0), "29,0,0,0,60,0,0,0,-9,0,0,7");
+        CreditExchange y = soldShort(60, 29);
+        y.bid(0, 1, 3);
+        y.tick(2);
+        Check.is("one credit is missing and paid for", Check.tenant(y, 0), "29,0,0,0,0,0,0,0,-9,0,0,-9");
+        CreditExchange z = soldShort(60, 30);
+        z.ask(0, 90, 1);
+        z.tick(2);
+        Check.is("one credit comes from an order", Check.tenant(z, 0), "30,0,0,0,60,0,0,0,-9,0,0,-9");
+        CreditExchange w = Check.of("L099010250t001000000t050000100");
+        w.ask(0, 90, 1);
+        w.withdraw(0);
+        w.push(0, 1);
+        w.askShort(0, 2, 1);
+        w.bid(1, 2, 1);
+        w.tick(3);
+        Check.is("a debt of one credit", Check.tenant(w, 0), "1,0,0,0,2,0,0,0,-9,0,1,7");
+    }
+
+    /** The longest term, and debts that are due at each of the times to come. */
+    private static void collectsAfterTheLongestTerm() {
+        CreditExchange x = Check.of("L099015009t099000000t001000999");
+        for (int k = 1; k <= 51; k++) {
+            x.askShort(0, 1, 1);
+            x.bid(1, 1, 1);
+            x.tick(1);
+            Check.is("the debts at " + k, x.tenant(0, 7), Math.min(k, 50));
+            Check.is("the earliest one at " + k, x.tenant(0, 8), k < 51 ? 51 : 52);
+        }
+        Check.is("one was collected", x.tenant(0, 2), 98);
+        x.tick(49);
+        Check.is("one is left", x.tenant(0, 7), 1);
+        Check.is("it is due at 101", x.tenant(0, 8), 101);
+        x.tick(1);
+        Check.is("none is left", x.tenant(0, 8), -9);
+        Check.is("all were collected", x.tenant(0, 2), 48);
     }
 
     private static void collectsSeveralDebts() {

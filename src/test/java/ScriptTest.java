@@ -11,6 +11,7 @@ public final class ScriptTest {
         refusesSimulations();
         simulates();
         simulatesByHand();
+        simulatesOneTenant();
         Check.end();
     }
 
@@ -28,6 +29,7 @@ public final class ScriptTest {
         CreditExchange x = exchange();
         for (int n : new int[] {0, -1, 4, Integer.MIN_VALUE, Integer.MAX_VALUE}) {
             Check.refuses("runScript(" + n + ", 1)", Check.ARGUMENT, x, () -> x.runScript(n, 1));
+            Check.refuses("runScript(" + n + ", 0)", Check.ARGUMENT, x, () -> x.runScript(n, 0));
         }
         for (int n = 1; n <= 3; n++) {
             int commands = n;
@@ -147,6 +149,10 @@ public final class ScriptTest {
         result(x, 1, 800112L, 0);
         result(x, 1, 801012L, 0);
         result(x, 3, 102005220005400001L, 1);
+        CreditExchange y = Check.of("L050010305t987000000");
+        result(y, 1, 700987L, -9);
+        result(y, 1, 700988L, 0);
+        result(y, 1, 701087L, 0);
     }
 
     private static void runsOnACopy() {
@@ -170,6 +176,8 @@ public final class ScriptTest {
         x.deposit(0, 1);
         String before = Check.all(x);
         Check.is("the message that waits", x.simulate(0, 1), 10);
+        x.ahead(5, 0, 0);
+        Check.is("on a copy of the state of now", x.simulate(0, 1), 10);
         for (long seed : new long[] {0, 1, -1, Long.MIN_VALUE, Long.MAX_VALUE, 123456789}) {
             x.simulate(seed, 1);
             x.simulate(seed, 60);
@@ -195,6 +203,18 @@ public final class ScriptTest {
             allBytes += bytes;
         }
         Check.that("messages were sent", allBytes > 80 * 10);
+    }
+
+    /** A new object sends a message of the size 1 alone. */
+    private static void simulatesOneTenant() {
+        int sent = 0;
+        for (long seed = 0; seed < 400; seed++) {
+            int r = (int) ((seed * 6364136223846793005L + 1442695040888963407L) >>> 33);
+            boolean fits = r / 65536 % 4 == 3 && r / 1024 % 20 == 0;
+            Check.is("simulate(" + seed + ", 1)", new CreditExchange().simulate(seed, 1), fits ? 1 : 0);
+            sent += fits ? 1 : 0;
+        }
+        Check.that("some rounds send a message", sent > 0);
     }
 
     private static int round(CreditExchange x, int t, int p, int q, int kind) {

@@ -10,6 +10,7 @@ public final class TextTest {
         errorsInMessages();
         loads();
         loadForgets();
+        loadDropsDebts();
         refusesToLoad();
         Check.end();
     }
@@ -162,6 +163,20 @@ public final class TextTest {
         Check.refuses("restore(0) after load", Check.STATE, x, () -> x.restore(0));
         Check.refuses("restore(1) after load", Check.STATE, x, () -> x.restore(1));
         Check.is("the text is kept", x.clearText(), text.length());
+    }
+
+    /** Whenever a debt is due, load drops it. */
+    private static void loadDropsDebts() {
+        CreditExchange x = Check.of("L020015001t010050100");
+        String fresh = Check.all(x);
+        for (int k = 1; k <= 52; k++) {
+            x.askShort(0, 1, 1);
+            x.bid(0, 1, 1);
+            x.tick(1);
+        }
+        Check.is("the debts", x.tenant(0, 7), 50);
+        x.load();
+        Check.is("no debts", Check.all(x), fresh);
     }
 
     private static void refusesToLoad() {
