@@ -175,6 +175,7 @@ public final class TextTest {
             x.tick(1);
         }
         Check.is("the debts", x.tenant(0, 7), 50);
+        Check.is("the debts in a question about the time to come", x.ahead(0, 0, 7), 50);
         x.load();
         Check.is("no debts", Check.all(x), fresh);
     }
