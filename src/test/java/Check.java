@@ -55,6 +55,15 @@ final class Check {
         return x;
     }
 
+    /** Tenant 0 sells 5 credits short at time 1, has but one at time 2, and cannot pay: suspended until 4. */
+    static CreditExchange suspended() {
+        CreditExchange x = of("L050010199t001010000t001000900");
+        x.askShort(0, 1, 5);
+        x.bid(1, 1, 5);
+        x.tick(2);
+        return x;
+    }
+
     static void type(CreditExchange x, String text) {
         for (int i = 0; i < text.length(); i++) {
             x.append(text.charAt(i));
@@ -99,6 +108,57 @@ final class Check {
             }
         }
         return told.toString();
+    }
+
+    /** All that calls tell which change nothing. */
+    static String seen(CreditExchange x) {
+        long[] answers = {x.demand(40), x.supply(40), x.auction(0), x.auction(1), x.auction(2), x.auction(3),
+            x.volumeIf(0, 0, 60, 9), x.priceFor(5), x.share(0, true), x.share(0, false), x.ahead(7, 0, 4),
+            x.sentAfter(0, 0), x.unused(9), x.fairness(true), x.fairness(false), x.wealthiest(0),
+            x.runScript(1, 400009L), x.simulate(5, 20), x.errorPosition()};
+        return all(x) + java.util.Arrays.toString(answers);
+    }
+
+    /** What only calls tell that change the object: the remembered states, the slots and the text. */
+    static String behind(CreditExchange x) {
+        StringBuilder told = new StringBuilder();
+        for (int left = canUndo(x); left != NONE; left = canUndo(x)) {
+            told.append("undo ").append(left).append(" ").append(brief(x));
+        }
+        for (int slot = 0; slot <= 1; slot++) {
+            int time = canRestore(x, slot);
+            told.append("slot ").append(time).append(" ").append(time == NONE ? "" : brief(x));
+        }
+        told.append("text ").append(x.errorPosition()).append(" ");
+        if (x.errorPosition() == NONE) {
+            x.load();
+            told.append(all(x));
+        }
+        return told.append(x.clearText()).toString();
+    }
+
+    private static String brief(CreditExchange x) {
+        int last = x.about(0) - 1;
+        return x.about(1) + "," + x.about(5) + "," + x.about(8) + "," + x.tenant(last, 1) + "," + x.tenant(0, 4) + ","
+                + x.tenant(last, 4) + "," + x.tenant(0, 9) + "\n";
+    }
+
+    /** How many states are left after an undo; NONE if none is remembered. */
+    static int canUndo(CreditExchange x) {
+        try {
+            return x.undo();
+        } catch (IllegalStateException e) {
+            return NONE;
+        }
+    }
+
+    /** The time of the state in a slot; NONE if it is empty. */
+    static int canRestore(CreditExchange x, int slot) {
+        try {
+            return x.restore(slot);
+        } catch (IllegalStateException e) {
+            return NONE;
+        }
     }
 
     static void end() {
