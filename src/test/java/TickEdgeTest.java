@@ -37,6 +37,7 @@ public final class TickEdgeTest {
         noPenalty();
         suspendedForTwiceTheTerm();
         suspendedBefore();
+        debtsDueAtOnce();
         debtsOfSeveralTenants();
         stepsOfATick();
         messagesBeforeDebts();
@@ -584,6 +585,25 @@ public final class TickEdgeTest {
         Check.is("at 7", x.tenant(0, 11), 8);
         x.tick(1);
         Check.is("at 8", x.tenant(0, 11), Check.NONE);
+    }
+
+    /** "for each tenant the oldest debt first": the first one takes all credits, the second one none, some or all cash */
+    private static void debtsDueAtOnce() {
+        // cash beside the 34 for 17 credits, then cash, house and suspension; 9 are missing, for 5 each
+        int[][] rows = {{0, 4, 30, 7}, {10, 4, 40, 7}, {11, 0, 45, -9}, {12, 1, 45, -9}};
+        for (int[] row : rows) {
+            CreditExchange x = Check.of(String.format("L099010205t00800%04dt001000999", row[0]));
+            x.askShort(0, 2, 8);
+            x.askShort(0, 2, 9);
+            x.bid(1, 2, 17);
+            x.tick(1);
+            Check.is("both debts", x.tenant(0, 7), 17);
+            x.tick(2);
+            Check.is("the cash of 34 and " + row[0], x.tenant(0, 4), row[1]);
+            Check.is("the house with " + row[0], x.about(6), row[2]);
+            Check.is("suspended until, with " + row[0], x.tenant(0, 11), row[3]);
+            Check.is("no debts", x.tenant(0, 7), 0);
+        }
     }
 
     /** "tenant by tenant in the order of their numbers": each of its own credits and cash */
