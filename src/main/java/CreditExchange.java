@@ -34,7 +34,9 @@ public final class CreditExchange {
     private final State copy = new State();
     private final Auction trial = new Auction();
     private final History history = new History();
+    /** An emptied slot keeps its room, to be used again. */
     private final State[] slots = new State[SLOTS];
+    private final boolean[] filled = new boolean[SLOTS];
     private final ExchangeText text = new ExchangeText();
 
     public CreditExchange() {
@@ -62,8 +64,8 @@ public final class CreditExchange {
         requirePossible(text.readInto(copy) == NONE);
         now.copyFrom(copy);
         history.forget();
-        for (int slot = 0; slot < slots.length; slot++) {
-            slots[slot] = null;
+        for (int slot = 0; slot < filled.length; slot++) {
+            filled[slot] = false;
         }
         return now.tenantCount;
     }
@@ -338,13 +340,14 @@ public final class CreditExchange {
             slots[slot] = saved;
         }
         saved.copyFrom(now);
+        filled[slot] = true;
         return now.time;
     }
 
     public int restore(int slot) throws IndexOutOfBoundsException, IllegalStateException {
         requireThere(isSlot(slot));
         State saved = slots[slot];
-        if (saved == null) {
+        if (saved == null || !filled[slot]) {
             throw new IllegalStateException("the slot is empty");
         }
         now.copyFrom(saved);
