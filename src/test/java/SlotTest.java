@@ -7,6 +7,7 @@ public final class SlotTest {
         savesAndRestores();
         slotsAreApart();
         forgetsStates();
+        emptiedSlotsAreApart();
         Check.end();
     }
 
@@ -79,5 +80,27 @@ public final class SlotTest {
         x.save(0);
         x.undo();
         Check.is("undo does not touch a slot", x.restore(0), 4);
+    }
+
+    /** Both slots were full before load: then each of them is empty until it is saved to itself. */
+    private static void emptiedSlotsAreApart() {
+        for (int slot = 0; slot <= 1; slot++) {
+            int used = slot;
+            int other = 1 - slot;
+            CreditExchange x = Check.of(TEXT);
+            x.tick(7);
+            x.save(0);
+            x.save(1);
+            x.load();
+            Check.refuses("restore(" + used + ") after load", Check.STATE, x, () -> x.restore(used));
+            Check.refuses("restore(" + other + ") after load", Check.STATE, x, () -> x.restore(other));
+            x.tick(3);
+            String saved = Check.all(x);
+            Check.is("save(" + used + ") after load", x.save(used), 3);
+            Check.refuses("restore of the other slot, " + other, Check.STATE, x, () -> x.restore(other));
+            x.tick(4);
+            Check.is("restore(" + used + ") after save", x.restore(used), 3);
+            Check.is("the state saved after load", Check.all(x), saved);
+        }
     }
 }
